@@ -652,11 +652,8 @@ public final class KitePost {
         return power;
     }
 
-    /** cases by 10 to the n, of which only 2 and 5, n times each, can be taken out. */
+    /** cases by 10 to the n: only 2 and 5 can be taken out, n times each (all of them of 0 cases). */
     private static long inLowestTerms(long cases, int n, int part) {
-        if (cases == 0) {
-            return part;
-        }
         long above = cases;
         long below = tenTo(n);
         for (int i = 0; i < n; i++) {

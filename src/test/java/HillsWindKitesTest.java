@@ -152,6 +152,11 @@ public final class HillsWindKitesTest {
     due.is("no such kite, and its home", post.aim(-1, 1), Due.BEYOND);
     due.is("unchanged by errors", post.aim(0, -1), 0);
     due.is("none again", post.ofKite(0, 5), -1);
+    for (int i = 1; i < 8; i++) {
+      post.kite(0, 1, 1010);
+    }
+    due.is("the eighth kite's", post.aim(7, 3), -1);
+    due.is("as ofKite tells of it", post.ofKite(7, 5), 3);
   }
 
   private static void pullByKinds() {
@@ -193,6 +198,9 @@ public final class HillsWindKitesTest {
     // f 3, d 4: 34, less the load, and the kind
     due.is("with LIFTS", post.pull(0, 0, 5), 11 + 29);
     due.is("DOUBLE with LIFTS, once", post.pull(1, 0, 5), 2 * 11 + 33);
+    post.wind(0, 39);
+    due.is("FORCE 9, whatever DIR is", post.pull(0, 0, 0), 10 + 18 + 94 - 0);
+    post.wind(0, 3);
     Due.read(post, 0, "9999");
     due.is("LIFTS is held", post.pull(0, 0, 0), 16 + 99);
   }
@@ -242,11 +250,14 @@ public final class HillsWindKitesTest {
     post.wind(7, 9);
     due.is("by another hour's wind", post.over(0, 7, 0), 0b1110);
     due.is("with a load", post.over(0, 7, 20), 0b0100);
+    post.kite(0, 2, 1012);
+    post.wind(8, 43);
+    due.is("hill 0, too", post.over(2, 8, 0), 0b0011);
     due.is("hour below", post.over(0, -1, 0), Due.BEYOND);
     due.is("hour above", post.over(0, 24, 0), Due.BEYOND);
     due.is("load above", post.over(0, 0, 1000), Due.BEYOND);
     due.is("load below", post.over(0, 0, -1), Due.BEYOND);
-    due.is("no such kite", post.over(2, 0, 0), Due.BEYOND);
+    due.is("no such kite", post.over(3, 0, 0), Due.BEYOND);
     due.is("OLD on the first day", post.over(1, 3, 16), 0b0100);
     post.hours(23);
     due.is("still the first day", post.over(1, 3, 16), 0b0100);

@@ -59,6 +59,9 @@ public final class LinesLettersTest {
   private static void crossings() {
     crossing("through each other", 0, way(0, 0, 4, 4), way(0, 4, 4, 0), 1);
     crossing("through each other, between points", 0, way(0, 0, 3, 2), way(0, 1, 3, 0), 1);
+    crossing("through each other, as small as can be", 0, way(0, 0, 1, 1), way(0, 1, 1, 0), 1);
+    crossing("on one side of the other, between its ends", 1, way(0, 0, 4, 0), way(1, 2, 3, 8), 0);
+    crossing("the same, turned", 1, way(1, 2, 3, 8), way(0, 0, 4, 0), 0);
     crossing("apart", 0, way(0, 0, 4, 0), way(0, 1, 4, 1), 0);
     crossing("would meet further on", 0, way(0, 0, 4, 4), way(6, 0, 7, 5), 0);
     crossing("an end on the other", 0, way(0, 0, 8, 0), way(2, 4, 4, 0), 1);
@@ -118,6 +121,40 @@ public final class LinesLettersTest {
     due.is("3 crosses 1", post.cross(1, 3), 1);
     due.is("3 and 0 have a home in common", post.cross(0, 3), 0);
     due.is("one that crosses only a DOWN one isn't", post.lines(1), 0b0010);
+
+    KitePost all = new KitePost();
+    all.hill(xy(15, 0), 0);
+    for (int i = 0; i < 8; i++) {
+      all.hill(xy(2 * i, 1), 0);
+      all.kite(0, 1 + i, 100 * i + 40);
+      all.aim(i, i == 7 ? 1 : 0);
+    }
+    all.wind(0, 41);
+    due.is("only one stands against x", all.lines(0), 0b10000000);
+    all.wind(0, 79);
+    due.is("the others to hill 0, with their end in common", all.lines(0) * 1000 + all.lines(1), 0b01111111 * 1000);
+
+    KitePost chain = new KitePost();
+    for (int i = 0; i < 9; i++) {
+      chain.hill(xy(i, 0), 0);
+    }
+    for (int i = 0; i < 8; i++) {
+      chain.kite(0, i, 100 * (20 - i) + 40);
+      chain.aim(i, 8);
+    }
+    due.is("eight over one another", chain.lines(0), 255);
+    due.is("only the first stays", chain.lines(1), 254);
+
+    KitePost weak = new KitePost();
+    weak.hill(0, 0);
+    weak.hill(16, 2);
+    weak.kite(0, 0, 40);
+    weak.aim(0, 1);
+    due.is("a pull of 0 is a line", weak.lines(0), 1);
+    weak.kite(0, 1, 40);
+    weak.aim(1, 0);
+    weak.wind(0, 41);
+    due.is("a line to hill 0", weak.lines(0), 2);
 
     KitePost like = twoLines(0, way(0, 0, 4, 4), way(0, 4, 4, 0));
     like.kite(0, 2, 9040);
@@ -282,6 +319,9 @@ public final class LinesLettersTest {
     due.is("also if loose", post.loose(64, 10), Due.STATE);
     due.is("BEYOND ahead of STATE", post.loose(64, 11), Due.BEYOND);
     due.is("no draw by errors", post.count(9), 1);
+    post.image();
+    due.is("63 are not, loose", post.loose(63, 5), 9999);
+    post.restore();
     due.is("63 are not", post.hours(63), 9999);
     due.is("no more", post.hours(1), Due.STATE);
     due.is("BEYOND ahead of STATE, too", post.hours(73), Due.BEYOND);
@@ -303,6 +343,15 @@ public final class LinesLettersTest {
     due.is("three draws", post.count(9), z);
     due.is("none calm", post.loose(3, 0), 6);
     due.is("it arrives", post.ofLetter(0, 6), 6);
+
+    // the first draw from 1 on has a rest of 9 or less: calm from one looseness on
+    int rest = ((1103515245 + 12345) >>> 8) % 10;
+    for (int loose = 0; loose <= 10; loose++) {
+      KitePost one = aChain();
+      one.letter(0, 1, 0, -1);
+      one.loose(1, loose);
+      due.is("calm if the rest " + rest + " is below " + loose, one.count(4), rest < loose ? 0 : 1);
+    }
 
     KitePost some = aChain();
     some.seed(99);

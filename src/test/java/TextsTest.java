@@ -187,6 +187,14 @@ public final class TextsTest {
     due.is("PAYS without, held below", post.law(1, 0, -2, 0, 0), 0);
     due.is("PAYS without, held above", post.law(1, 0, 999, 0, 0), 999);
     due.is("PAYS without, as w+1 wraps", post.law(1, 0, Integer.MAX_VALUE, 0, 0), 0);
+    post.image();
+    Due.read(post, 0, "77");
+    Due.read(post, 1, "78");
+    due.is("LIFTS with one", post.law(0, 1, 2, 3, 4), 77);
+    due.is("PAYS with one", post.law(1, 1, 2, 3, 4), 78);
+    post.restore();
+    due.is("LIFTS without one again", post.law(0, 1, 2, 3, 4), 0);
+    due.is("PAYS without one again", post.law(1, 50, 30, 3, 4), 31);
     Due.read(post, 0, "f-d*2+l*3-k*4");
     due.is("names of LIFTS in order", post.law(0, 1, 2, 3, 4), 1 - 4 + 9 - 16);
     Due.read(post, 1, "h*10+w");

@@ -52,6 +52,19 @@ public final class WaysTest {
     due.is("nothing has changed", post.count(0) + post.count(4) + post.count(5), 0);
     due.is("nor where it is", post.ofLetter(0, 5), 0);
     due.is("72 hours", post.then(72, 0), 2);
+
+    KitePost hilly = new KitePost();
+    hilly.hill(xy(3, 2), 1);
+    hilly.hill(xy(3, 9), 5);
+    hilly.kite(0, 0, 1040);
+    hilly.aim(0, 1);
+    hilly.wind(0, 23);
+    hilly.wind(1, 23);
+    hilly.letter(0, 1, 5, -1);
+    due.is("by y and heights, just too heavy", hilly.then(1, 0), 0);
+    hilly.letter(0, 1, 4, -1);
+    due.is("by y and heights, just not", hilly.then(1, 0), 1);
+
     for (int i = 0; i < 138; i++) {
       post.hours(72);
     }
@@ -80,6 +93,8 @@ public final class WaysTest {
     due.is("next hill", post.soonest(0, 1, 0), 1);
     due.is("three hills", post.soonest(0, 3, 0), 3);
     due.is("against the wind", post.soonest(3, 0, 0), Due.NONE);
+    post.wind(5, 43);
+    due.is("to hill 0", post.soonest(1, 0, 0), 6);
     due.is("as heavy as can be", post.soonest(0, 3, 46), 3);
     due.is("too heavy", post.soonest(0, 3, 47), Due.NONE);
     for (int i = 0; i < 3; i++) {
@@ -139,11 +154,19 @@ public final class WaysTest {
     sureIs("one hour, 3 tenths", post, 1, 103, 7, 10);
     sureIs("two hours, 3 tenths", post, 1, 203, 91, 100);
     sureIs("one hour, 4 tenths", post, 1, 104, 3, 5);
+    sureIs("one hour, 6 tenths", post, 1, 106, 2, 5);
+    sureIs("one hour, 9 tenths", post, 1, 109, 1, 10);
+    sureIs("from another hill", post, 23, 203, 91, 100);
+    sureIs("two hills in two hours", post, 13, 203, 49, 100);
     sureIs("three hills in two hours", post, 3, 200, 0, 1);
     sureIs("three hills in three hours", post, 3, 305, 1, 8);
     // at least three of four hours: 0.9^4 + 4 * 0.1 * 0.9^3
     sureIs("three hills in four hours", post, 3, 401, 9477, 10000);
     sureIs("ten hours, exactly", post, 1, 1001, 9999999999L, 10000000000L);
+    post.wind(0, 43);
+    sureIs("nothing in the first hour, to hill 1", post, 1, 203, 7, 10);
+    sureIs("back in the first hour", post, 10, 203, 7, 10);
+    post.wind(0, 3);
     sureIs("against the wind", post, 30, 1000, 0, 1);
     due.is("too heavy", post.sure(1, 47, 1000, 0), 0);
     due.is("as heavy as can be", post.sure(1, 46, 1000, 0), 1);
@@ -241,6 +264,44 @@ public final class WaysTest {
     Due.read(post, 0, "0-99*(k=0&d>9)");
     due.is("by LIFTS, none in two", post.fresh(0, 1, 0, 0), xy(6, 0));
     due.is("nearer both", post.fresh(0, 1, 0, 1), 2);
+
+    KitePost line = new KitePost();
+    line.hill(xy(0, 0), 0);
+    line.hill(xy(15, 9), 0);
+    line.kite(0, 0, 4003);
+    // FAR to hill 1 is 22 from (2, 0), and 20 from (2, 2), which is 4 from hill 0
+    due.is("(2, 0) is too far from hill 1", line.fresh(0, 1, 0, 0), Due.NONE);
+    line.kite(0, 0, 4004);
+    due.is("a line of 20 is just enough from (2, 2)", line.fresh(0, 1, 0, 0), xy(2, 2));
+
+    KitePost later = new KitePost();
+    later.hill(xy(0, 0), 0);
+    later.hill(xy(8, 0), 0);
+    later.hill(xy(15, 0), 0);
+    later.kite(0, 0, 4004);
+    later.kite(0, 1, 4010);
+    Due.read(later, 0, "0-99*(k=0&d>12)");
+    // from (2, 0) on hill 2 is 13 away, so by hill 1: three hours; from (4, 0) it is 11: two
+    due.is("a later place is sooner by one", later.fresh(0, 2, 0, 0) * 10 + later.fresh(0, 2, 0, 1), xy(4, 0) * 10 + 2);
+
+    KitePost slow = new KitePost();
+    slow.hill(xy(0, 0), 0);
+    slow.hill(xy(4, 0), 0);
+    slow.hill(xy(8, 0), 0);
+    slow.hill(xy(12, 0), 0);
+    for (int i = 0; i < 3; i++) {
+      slow.kite(0, i, 4004);
+    }
+    Due.read(slow, 0, "0-99*(d>4)");
+    for (int hour = 0; hour < 24; hour++) {
+      slow.wind(hour, hour == 23 ? 3 : 0);
+    }
+    due.is("in the 72nd hour", slow.fresh(0, 3, 0, 1), 72);
+    due.is("by the least place", slow.fresh(0, 3, 0, 0), xy(0, 2));
+    slow.wind(23, 0);
+    slow.wind(0, 3);
+    slow.hours(1);
+    due.is("72 from hour 1 on", slow.fresh(0, 3, 0, 1), 72);
 
     KitePost near = new KitePost();
     near.hill(xy(0, 0), 0);
