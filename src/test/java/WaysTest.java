@@ -269,8 +269,9 @@ public final class WaysTest {
     line.hill(xy(0, 0), 0);
     line.hill(xy(15, 9), 0);
     line.kite(0, 0, 4003);
-    // FAR to hill 1 is 22 from (2, 0), and 20 from (2, 2), which is 4 from hill 0
-    due.is("(2, 0) is too far from hill 1", line.fresh(0, 1, 0, 0), Due.NONE);
+    line.hill(xy(15, 8), 0);
+    // FAR to hill 2 is 21 from (2, 0), that to hill 1 20 from (2, 2), which is 4 from hill 0
+    due.is("(2, 0) is too far from hill 2", line.fresh(0, 2, 0, 0), Due.NONE);
     line.kite(0, 0, 4004);
     due.is("a line of 20 is just enough from (2, 2)", line.fresh(0, 1, 0, 0), xy(2, 2));
 
@@ -302,6 +303,13 @@ public final class WaysTest {
     slow.wind(0, 3);
     slow.hours(1);
     due.is("72 from hour 1 on", slow.fresh(0, 3, 0, 1), 72);
+    slow.hours(71);
+    slow.hill(xy(15, 1), 0);
+    slow.kite(0, 3, 4004);
+    due.is("only in the 73rd hour", slow.soonest(0, 4, 0), Due.NONE);
+    due.is("and no new hill helps", slow.fresh(0, 4, 0, 0), Due.NONE);
+    slow.wind(5, 3);
+    due.is("with another hour", slow.soonest(0, 4, 0), 30);
 
     KitePost near = new KitePost();
     near.hill(xy(0, 0), 0);
