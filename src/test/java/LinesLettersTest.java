@@ -17,7 +17,7 @@ public final class LinesLettersTest {
   }
 
   private static int xy(int x, int y) {
-    return 16 * x + y;
+    return Worlds.xy(x, y);
   }
 
   /** Two kites of KIND KITE, LIFT 90 and 80, LINE 40, each from a place to another, in one wind. */
@@ -198,17 +198,8 @@ public final class LinesLettersTest {
     due.is("on hill 2", post.ofHill(2, 2), 2);
   }
 
-  /** Hills at x 0, 4, 8, 12, and a kite of KIND KITE, LIFT 40, LINE 20 from each of the first three to the next. */
   private static KitePost aChain() {
-    KitePost post = new KitePost();
-    for (int i = 0; i < 4; i++) {
-      post.hill(xy(4 * i, 0), 0);
-    }
-    for (int i = 0; i < 3; i++) {
-      post.kite(0, i, 4020);
-      post.aim(i, i + 1);
-    }
-    return post;
+    return Worlds.chain(4, 20);
   }
 
   private static void hourByHour() {

@@ -20,21 +20,8 @@ public final class TellingTest {
     due.end();
   }
 
-  private static int xy(int x, int y) {
-    return 16 * x + y;
-  }
-
-  /** Hills at x 0, 4, 8, and a kite of KIND KITE, LIFT 40, LINE 4 from each of the first two, aimed at the next. */
   private static KitePost aChain() {
-    KitePost post = new KitePost();
-    for (int i = 0; i < 3; i++) {
-      post.hill(xy(4 * i, 0), 0);
-    }
-    for (int i = 0; i < 2; i++) {
-      post.kite(0, i, 4004);
-      post.aim(i, i + 1);
-    }
-    return post;
+    return Worlds.chain(3, 4);
   }
 
   private static void seeds() {
@@ -43,16 +30,6 @@ public final class TellingTest {
     due.is("any number, no error", post.seed(Integer.MIN_VALUE), -1000000001);
     due.is("by count, too", post.count(9), Integer.MIN_VALUE);
     due.is("nothing told", post.told(1), 0);
-  }
-
-  /** One kite of each KIND, its number being its KIND's, all of m. */
-  private static KitePost oneOfEach(int m) {
-    KitePost post = new KitePost();
-    post.hill(0, 0);
-    for (int kind = 0; kind < 7; kind++) {
-      post.kite(10 * kind + m, 0, 101);
-    }
-    return post;
   }
 
   private static void said(KitePost post, int kite, int act, int x, int want, int... bodies) {
@@ -66,7 +43,7 @@ public final class TellingTest {
   }
 
   private static void voices() {
-    KitePost post = oneOfEach(3);
+    KitePost post = Worlds.oneOfEach(3);
     said(post, 0, 0, 5, 5, 10);
     said(post, 0, 1, 5, 10, 11, 10);
     said(post, 0, 2, 5, 2, 12);
@@ -93,7 +70,7 @@ public final class TellingTest {
   }
 
   private static void voiceErrors() {
-    KitePost post = oneOfEach(0);
+    KitePost post = Worlds.oneOfEach(0);
     post.voice(0, 1, 1);
     due.is("act below", post.voice(0, -1, 0), Due.BEYOND);
     due.is("act above", post.voice(0, 4, 0), Due.BEYOND);

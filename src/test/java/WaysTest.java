@@ -19,20 +19,11 @@ public final class WaysTest {
   }
 
   private static int xy(int x, int y) {
-    return 16 * x + y;
+    return Worlds.xy(x, y);
   }
 
-  /** Hills at x 0, 4, 8, 12, and a kite of KIND KITE, LIFT 40, LINE 4 from each of the first three, aimed at the next. */
   private static KitePost aChain() {
-    KitePost post = new KitePost();
-    for (int i = 0; i < 4; i++) {
-      post.hill(xy(4 * i, 0), 0);
-    }
-    for (int i = 0; i < 3; i++) {
-      post.kite(0, i, 4004);
-      post.aim(i, i + 1);
-    }
-    return post;
+    return Worlds.chain(4, 4);
   }
 
   private static void ahead() {
