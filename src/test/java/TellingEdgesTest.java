@@ -19,6 +19,7 @@ public final class TellingEdgesTest {
     imagesOfNothing();
     imagesOneAfterAnother();
     imagesOfWhatWaits();
+    imagesOfAllThatIsFull();
     twentyNumbers();
     checksOfTwentyHours();
     toldOfEach();
@@ -313,6 +314,26 @@ public final class TellingEdgesTest {
     due.is("50 bytes", post.feed('1', 1), Due.FULL);
     due.is("they end too early", post.text(0), -60);
     due.is("what told() tells isn't restored", post.told(4) * 10 + post.told(1), 21);
+  }
+
+  private static void imagesOfAllThatIsFull() {
+    KitePost post = Worlds.full();
+    KitePost twin = Worlds.full();
+    post.image();
+    twin.image();
+    post.check(0);
+    post.text(1);
+    post.aim(7, -1);
+    post.wind(23, 79);
+    post.hours(2);
+    post.restore();
+    due.is("a tenth hill", post.hill(255, 0), Due.FULL);
+    due.is("a ninth kite", post.kite(0, 0, 101), Due.FULL);
+    due.is("a thirteenth letter", post.letter(0, 1, 0, -1), Due.FULL);
+    due.is("a 51st byte", post.feed(0, 1), Due.FULL);
+    due.is("a 21st number", post.tell(0), Due.FULL);
+    due.is("all told of", post.told(4), 5);
+    due.holds("all is as the image has it", Probe.of(post).equals(Probe.of(twin)));
   }
 
   private static void twentyNumbers() {

@@ -16,6 +16,7 @@ public final class WaysEdgesTest {
     bestOfNone();
     bestOfTheLastHill();
     bestIsNoAim();
+    bestOnlyOfHills();
     bestInTheSeventySecondHour();
     freshPlaces();
     freshHeightAndWeight();
@@ -290,6 +291,23 @@ public final class WaysEdgesTest {
     post.letter(2, 3, 0, -1);
     due.is("more by its aim", post.best(1, 72), 3);
     due.is("it helps the other one nothing", post.best(0, 72), -1);
+  }
+
+  /**
+   * The first kite takes the letter the wrong way, unless a line from hill 0 down to (0, 0) crosses its own: but there
+   * is no hill. Hill 3 is too high for the third kite.
+   */
+  private static void bestOnlyOfHills() {
+    KitePost post = Worlds.hills(xy(8, 4), xy(4, 6), xy(4, 1));
+    post.hill(xy(2, 6), 9);
+    post.wind(0, 53);
+    post.aim(post.kite(0, 1, 40), 2);
+    post.aim(post.kite(0, 1, 9940), 3);
+    post.kite(0, 0, 1040);
+    post.letter(1, 3, 0, -1);
+    due.is("no hill helps", post.best(2, 1), -1);
+    due.is("a hill at 0", post.hill(0, 0), 4);
+    due.is("helps", post.best(2, 1), 4);
   }
 
   private static void bestInTheSeventySecondHour() {

@@ -130,6 +130,23 @@ final class Worlds {
     return post;
   }
 
+  /** 9 hills, 8 kites with aims, 12 letters, 50 bytes, 20 numbers that wait. */
+  static KitePost full() {
+    KitePost post = hills(0, 16, 32, 48, 64, 80, 96, 112, 128);
+    for (int i = 0; i < 8; i++) {
+      post.kite(10 * (i % 7) + i, i, 100 * (90 + i) + 33 + i);
+      post.aim(i, i + 1);
+    }
+    for (int i = 0; i < 12; i++) {
+      post.letter(i % 9, (i + 4) % 9, 30 - i, i - 1);
+    }
+    Due.feed(post, "h+5" + "+1".repeat(23) + "0");
+    for (int i = 0; i < 20; i++) {
+      post.tell(100 - i);
+    }
+    return post;
+  }
+
   static KitePost lastTime() {
     KitePost post = busy();
     until(post, 9999);
